@@ -120,11 +120,11 @@ public final class BirdOffice {
         if (f == null || !f.hasStrike(k)) {
             throw new IndexOutOfBoundsException("no such strike");
         }
-        if (!isWithin(what, 1) || f.isVoid(k)) {
+        long upper = f.upperOf(k);
+        long lower = f.lowerOf(k);
+        if (lower == 0 || !isWithin(what, 1)) {
             throw new NoSuchElementException("no such part of a time");
         }
-        long upper = f.timeUpper(k);
-        long lower = f.timeLower(k);
         long common = Math.max(1L, commonDivisor(upper, lower));
         return (what == 0 ? upper : lower) / common;
     }
@@ -453,7 +453,7 @@ public final class BirdOffice {
         }
     }
 
-    /** The tokens of a text; a strange one is a fault only when reading comes to it. */
+    /** The tokens of a text, read one behind the other: a strange one is a fault once it is reached. */
     private static final class TokenRow {
         private static final Token[] ALL_KINDS = Token.values();
 
@@ -461,9 +461,11 @@ public final class BirdOffice {
         private final int[] places = new int[TAPE_BYTES + 1];
         private final int[] values = new int[TAPE_BYTES + 1];
         private int size;
+        private int next;
 
         void scan(Tape tape, int length) {
             size = 0;
+            next = 0;
             int at = 0;
             for (int step = 0; step < length && at < length; step++) {
                 int first = tape.byteAt(at);
@@ -479,16 +481,27 @@ public final class BirdOffice {
             addToken(Token.END, length, 0);
         }
 
-        Token kindAt(int i) {
-            return i >= 0 && i < size ? kinds[i] : Token.END;
+        Token kind() {
+            return next < size ? kinds[next] : Token.END;
         }
 
-        int placeAt(int i) {
-            return i >= 0 && i < size ? places[i] : NONE;
+        boolean sees(Token kind) {
+            return next < size && kinds[next] == kind;
         }
 
-        int valueAt(int i) {
-            return i >= 0 && i < size ? values[i] : 0;
+        int place() {
+            return next < size ? places[next] : NONE;
+        }
+
+        int value() {
+            return next < size ? values[next] : 0;
+        }
+
+        /** The end is never passed, so that there is always a token to be seen. */
+        void pass() {
+            if (next < size - 1) {
+                next++;
+            }
         }
 
         private void addToken(Token kind, int place, int value) {
@@ -545,53 +558,46 @@ public final class BirdOffice {
         private static final int STRANGE_TOKEN = 1;
         private static final int TOO_MUCH = 2;
         private static final int WRONG_ITEM = 3;
+        private static final int ITEM_KINDS = 4;
 
         private final TokenRow row = new TokenRow();
         private final Book draft = new Book();
-        private int at;
         private int faultKind = NO_FAULT;
-        private int faultPlace = NONE;
 
         int faultKind() {
             return faultKind;
         }
 
+        /** Reading stops at the token that is refused, and stays there until another text comes. */
         int faultPlace() {
-            return faultPlace;
+            return faultKind == NO_FAULT ? NONE : row.place();
         }
 
         boolean readBook(Tape tape, int length) {
             faultKind = NO_FAULT;
-            faultPlace = NONE;
             row.scan(tape, length);
-            at = 0;
             draft.empty();
             for (int k = 0; k < MAX_LISTS; k++) {
                 if (!readList()) {
                     return false;
                 }
-                if (sees(Token.END)) {
+                if (row.sees(Token.END)) {
                     return true;
                 }
             }
-            return refuse(sees(Token.LIST) ? TOO_MUCH : STRANGE_TOKEN);
-        }
-
-        private boolean sees(Token kind) {
-            return row.kindAt(at) == kind;
+            return refuse(row.sees(Token.LIST) ? TOO_MUCH : STRANGE_TOKEN);
         }
 
         private boolean refuse(int kind) {
             faultKind = kind;
-            faultPlace = row.placeAt(at);
             return false;
         }
 
         private boolean take(Token kind) {
-            if (!sees(kind)) {
+            if (!row.sees(kind)) {
                 return refuse(STRANGE_TOKEN);
             }
-            at++;
+            row.pass();
             return true;
         }
 
@@ -600,8 +606,8 @@ public final class BirdOffice {
                 return false;
             }
             draft.addList();
-            // An item for which a list has no kind left is refused where it begins.
-            for (int k = 0; k <= 4 && !sees(Token.SHUT); k++) {
+            // Of four kinds a fifth item is one too many: it is refused where it begins.
+            for (int k = 0; k <= ITEM_KINDS && !row.sees(Token.SHUT); k++) {
                 if (!readItem()) {
                     return false;
                 }
@@ -610,7 +616,7 @@ public final class BirdOffice {
         }
 
         private boolean readItem() {
-            Token word = row.kindAt(at);
+            Token word = row.kind();
             if (word != Token.IF && word != Token.MOST && word != Token.UNTIL
                     && word != Token.PAY) {
                 return refuse(STRANGE_TOKEN);
@@ -618,7 +624,7 @@ public final class BirdOffice {
             if (draft.hasItem(word)) {
                 return refuse(WRONG_ITEM);
             }
-            at++;
+            row.pass();
             boolean good = false;
             if (word == Token.IF) {
                 good = readAny(0);
@@ -631,26 +637,27 @@ public final class BirdOffice {
         }
 
         private boolean readLimit(Token word) {
-            if (word == Token.MOST && sees(Token.NUMBER) && row.valueAt(at) == 0) {
+            int number = row.value();
+            if (word == Token.MOST && row.sees(Token.NUMBER) && number == 0) {
                 return refuse(WRONG_ITEM);
             }
-            draft.setLimit(word, row.valueAt(at));
+            draft.setLimit(word, number);
             return take(Token.NUMBER);
         }
 
         private boolean readPays() {
             int sum = 0;
             for (int k = 0; k < MAX_PAYS; k++) {
-                int number = row.valueAt(at);
-                if (sees(Token.NUMBER) && sum + number > 100) {
+                int number = row.value();
+                sum += number;
+                if (row.sees(Token.NUMBER) && sum > 100) {
                     return refuse(WRONG_ITEM);
                 }
                 if (!take(Token.NUMBER)) {
                     return false;
                 }
-                sum += number;
                 draft.addPay(number);
-                if (!sees(Token.NUMBER)) {
+                if (!row.sees(Token.NUMBER)) {
                     return true;
                 }
             }
@@ -661,8 +668,8 @@ public final class BirdOffice {
             if (!readAll(round)) {
                 return false;
             }
-            for (int k = 0; k < TAPE_BYTES && sees(Token.OR); k++) {
-                at++;
+            for (int k = 0; k < TAPE_BYTES && row.sees(Token.OR); k++) {
+                row.pass();
                 if (!readAll(round)) {
                     return false;
                 }
@@ -675,8 +682,8 @@ public final class BirdOffice {
             if (!readFact(round)) {
                 return false;
             }
-            for (int k = 0; k < TAPE_BYTES && sees(Token.AND); k++) {
-                at++;
+            for (int k = 0; k < TAPE_BYTES && row.sees(Token.AND); k++) {
+                row.pass();
                 if (!readFact(round)) {
                     return false;
                 }
@@ -686,39 +693,37 @@ public final class BirdOffice {
         }
 
         private boolean readFact(int round) {
-            boolean turned = sees(Token.NOT);
+            boolean turned = row.sees(Token.NOT);
             if (turned) {
-                at++;
+                row.pass();
             }
-            if (!(sees(Token.OPEN_ROUND) ? readRound(round) : readComparison())) {
-                return false;
-            }
-            if (turned) {
+            boolean good = row.sees(Token.OPEN_ROUND) ? readRound(round) : readComparison();
+            if (good && turned) {
                 draft.addStep(Book.STEP_NOT, 0);
             }
-            return true;
+            return good;
         }
 
         private boolean readRound(int round) {
             if (round >= MAX_ROUND) {
                 return refuse(TOO_MUCH);
             }
-            at++;
+            row.pass();
             return readAny(round + 1) && take(Token.SHUT_ROUND);
         }
 
         private boolean readComparison() {
-            int subject = subjectOf(row.kindAt(at));
+            int subject = subjectOf(row.kind());
             if (subject == NONE) {
                 return refuse(STRANGE_TOKEN);
             }
-            at++;
-            int relation = relationOf(row.kindAt(at));
+            row.pass();
+            int relation = relationOf(row.kind());
             if (relation == NONE) {
                 return refuse(STRANGE_TOKEN);
             }
-            at++;
-            draft.addStep(subject * Book.RELATIONS + relation, row.valueAt(at));
+            row.pass();
+            draft.addStep(subject * Book.RELATIONS + relation, row.value());
             return take(Token.NUMBER);
         }
 
@@ -982,6 +987,9 @@ public final class BirdOffice {
         private final int[] strikeBird = new int[MAX_STRIKES];
         private final int[] strikeSecond = new int[MAX_STRIKES];
         private final int[] strikeDay = new int[MAX_STRIKES];
+        // A strike's time as its clock tells it now; a lower number of 0 tells that it is void.
+        private final long[] timeUpper = new long[MAX_STRIKES];
+        private final long[] timeLower = new long[MAX_STRIKES];
         private final int[] protestDay = new int[MAX_BIRDS];
         private final int[] withdrawalDay = new int[MAX_BIRDS];
         private final Purse[] purses = new Purse[MAX_LISTS];
@@ -1001,10 +1009,16 @@ public final class BirdOffice {
         }
 
         void setClock(int loft, int set, int read, int shown) {
-            if (loft >= 0 && loft < MAX_LOFTS) {
-                clockSet[loft] = set;
-                clockRead[loft] = read;
-                clockShown[loft] = shown;
+            if (loft < 0 || loft >= MAX_LOFTS) {
+                return;
+            }
+            clockSet[loft] = set;
+            clockRead[loft] = read;
+            clockShown[loft] = shown;
+            for (int k = 0; k < strikes; k++) {
+                if (strikeLoft[k] == loft) {
+                    setTime(k, loft);
+                }
             }
         }
 
@@ -1016,8 +1030,20 @@ public final class BirdOffice {
             strikeBird[strikes] = bird;
             strikeSecond[strikes] = second;
             strikeDay[strikes] = known;
+            setTime(strikes, loft);
             strikes++;
             return strikes;
+        }
+
+        private void setTime(int k, int loft) {
+            if (k < 0 || k >= MAX_STRIKES || loft < 0 || loft >= MAX_LOFTS) {
+                return;
+            }
+            long set = clockSet[loft];
+            long second = strikeSecond[k];
+            boolean told = second >= set && second <= clockShown[loft];
+            timeLower[k] = told ? clockShown[loft] - set : 0;
+            timeUpper[k] = set * timeLower[k] + (second - set) * (clockRead[loft] - set);
         }
 
         int strikeCount() {
@@ -1028,67 +1054,46 @@ public final class BirdOffice {
             return k >= 0 && k < strikes;
         }
 
-        boolean isVoid(int k) {
-            if (!hasStrike(k)) {
-                return true;
-            }
-            int loft = strikeLoft[k];
-            int second = strikeSecond[k];
-            return clockShown[loft] <= clockSet[loft] || second < clockSet[loft]
-                    || second > clockShown[loft];
+        long upperOf(int k) {
+            return k >= 0 && k < strikes ? timeUpper[k] : 0;
         }
 
-        long timeUpper(int k) {
-            if (!hasStrike(k)) {
-                return 0;
-            }
-            int loft = strikeLoft[k];
-            long set = clockSet[loft];
-            return set * timeLower(k) + (strikeSecond[k] - set) * (clockRead[loft] - set);
-        }
-
-        long timeLower(int k) {
-            if (!hasStrike(k)) {
-                return 1;
-            }
-            int loft = strikeLoft[k];
-            return clockShown[loft] - clockSet[loft];
+        long lowerOf(int k) {
+            return k >= 0 && k < strikes ? timeLower[k] : 0;
         }
 
         /** A way is a root: velocities are compared by their squares, which are fractions. */
         long velocityUpper(int k, long waySquared) {
-            long lower = timeLower(k);
+            long lower = lowerOf(k);
             return waySquared * lower * lower;
         }
 
         long velocityLower(int k) {
-            long flown = timeUpper(k) - released * timeLower(k);
+            long flown = upperOf(k) - released * lowerOf(k);
             return flown * flown;
         }
 
         void findEarliest(int[] earliest, int until, int known) {
             Arrays.fill(earliest, NONE);
+            int last = until == NONE ? closed : Math.min(closed, released + until);
             for (int k = 0; k < strikes; k++) {
                 int bird = strikeBird[k];
-                if (bird < earliest.length && doesCount(k, until, known)
-                        && (earliest[bird] == NONE || isEarlier(k, earliest[bird]))) {
+                if (bird >= 0 && bird < earliest.length && strikeDay[k] <= known
+                        && doesCount(k, last) && isEarlier(k, earliest[bird])) {
                     earliest[bird] = k;
                 }
             }
         }
 
-        private boolean doesCount(int k, int until, int known) {
-            if (strikeDay[k] > known || isVoid(k)) {
-                return false;
-            }
-            long upper = timeUpper(k);
-            long lower = timeLower(k);
-            long last = until == NONE ? closed : Math.min(closed, released + until);
-            return upper > released * lower && upper <= last * lower;
+        private boolean doesCount(int k, long last) {
+            long upper = upperOf(k);
+            long lower = lowerOf(k);
+            return lower > 0 && upper > released * lower && upper <= last * lower;
         }
 
+        /** Of equal ones the one told first counts. */
         private boolean isEarlier(int k, int other) {
-            return timeUpper(k) * timeLower(other) < timeUpper(other) * timeLower(k);
+            return other == NONE || upperOf(k) * lowerOf(other) < upperOf(other) * lowerOf(k);
         }
 
         void addProtest(int bird, int known) {

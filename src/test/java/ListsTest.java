@@ -12,6 +12,7 @@ public final class ListsTest {
         firstFault();
         whatAFaultLeaves();
         conditions();
+        longTexts();
         limits();
         DUE.end();
     }
@@ -82,6 +83,12 @@ public final class ListsTest {
         DUE.dueFault(office, "List{}", 1, 0);
         DUE.dueFault(office, "lis t{}", 1, 0);
         DUE.dueFault(office, "listlist{}", 1, 0);
+        DUE.dueFault(office, "listz{}", 1, 0);
+        DUE.dueFault(office, "lista{}", 1, 0);
+        DUE.dueFault(office, "list{most 1`;}", 1, 11);
+        DUE.dueFault(office, "list{most 1/;}", 1, 11);
+        DUE.dueFault(office, "list{most 1:;}", 1, 11);
+        DUE.dueFault(office, "list{pay 9 9090909090;}", 1, 11);
         DUE.dueFault(office, "list{ mosta 1;}", 1, 6);
         DUE.dueFault(office, "list{most -1;}", 1, 10);
         DUE.dueFault(office, "list{if loft<=1;}", 1, 13);
@@ -236,6 +243,21 @@ public final class ListsTest {
         dueBirds("ring>0 and ring<7 and not ring=3", 1, 2, 4, 5, 6);
         dueBirds("ring=9 or (ring=9 or ring=1 and (ring=9 or ring<9 and (ring=9 or ring<9 and "
                 + "(ring=9 or ring<9 and (ring=9 or ring<9 and (ring=9 or ring=1))))))", 1);
+    }
+
+    /** Texts as long as the tape: of as many tokens, and of as many parts of a condition. */
+    private static void longTexts() {
+        BirdOffice office = eightHome();
+        DUE.dueFault(office, "{".repeat(800), 1, 0);
+        DUE.dueFault(office, "list{" + ";".repeat(795), 1, 5);
+        DUE.dueLists(office, "list{}" + " ".repeat(794), 1);
+        DUE.dueLists(office, "list{if " + "not sex=0or ".repeat(65) + "ring=4;}" + "\n".repeat(4), 1);
+        DUE.due("a long condition", office.result(0, 0, 0), 5);
+        DUE.dueLists(office, "list{if " + "sex=9or ".repeat(97) + "ring=4;}" + "\n".repeat(4), 1);
+        DUE.dueResult(office, 0, 0, 0, 4, 1, 4);
+        DUE.dueLists(office, "list{until 12;if not(" + "sex=9or ".repeat(89) + "ring=4);" + "pay 9;}" + "list{if ring=5;}", 2);
+        DUE.dueResult(office, 0, 0, 0, 0, 1, 0, 1, 2, 1, 2, 3, 2);
+        DUE.dueResult(office, 0, 1, 0, 5, 1, 5);
     }
 
     private static void limits() {

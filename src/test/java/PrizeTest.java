@@ -97,6 +97,16 @@ public final class PrizeTest {
             office.stake(0, 0, bird, 10000);
         }
         duePool(office, 8, 40000, 13200, 26800, 0);
+        // The first, home alone, has no stake: the two behind it share places 1 and 2.
+        office = smallOffice("list{pay 50 20 9;}");
+        office.stake(0, 0, 1, 60);
+        office.stake(0, 0, 2, 20);
+        office.stake(0, 0, 3, 20);
+        duePrizes(office, 8, 0, 9, 35, 35);
+        duePool(office, 8, 100, 79, 21, 0);
+        // One of two that are equal has no stake: the other has its place alone.
+        office.stake(0, 0, 2, 0);
+        duePrizes(office, 8, 0, 16, 0, 40);
         // Cut for each place first: 1 and 1 of 1.98 each, not 3 of 3.96 together.
         office = smallOffice("list{if ring>1;pay 33 33;}");
         office.stake(0, 0, 2, 3);

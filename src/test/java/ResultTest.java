@@ -12,6 +12,7 @@ public final class ResultTest {
         withdrawals();
         rows();
         faster();
+        aFullOffice();
         DUE.end();
     }
 
@@ -50,6 +51,8 @@ public final class ResultTest {
         DUE.due("5001 told is 5000.4999", office.result(0, 4, 10), 2);
         office.clock(0, 0, 0, 4995, 5000);
         DUE.due("1001 told is 999.999, 5000 is 4995", office.result(0, 4, 10), 1);
+        office.clock(0, 0, 4999, 5000, 5000);
+        DUE.due("a clock that ran for a second", office.result(0, 4, 10), 1);
         int[][] wrong = {{-1, 0, 0}, {1, 0, 0}, {0, -1, 0}, {0, 5, 0}, {0, 0, -1}, {0, 0, 401}};
         for (int[] w : wrong) {
             DUE.due("result of " + java.util.Arrays.toString(w),
@@ -247,5 +250,41 @@ public final class ResultTest {
             DUE.due("faster of " + java.util.Arrays.toString(w),
                     office.faster(w[0], w[1], w[2], w[3]), -1);
         }
+    }
+
+    /** As many of all as the document allows, each clock told again behind the strikes. */
+    private static void aFullOffice() {
+        BirdOffice office = new BirdOffice();
+        for (int i = 0; i < 8; i++) {
+            office.loft(2000, 2000);
+        }
+        for (int i = 0; i < 24; i++) {
+            office.bird(i % 8, i, 0);
+        }
+        Due.tellLists(office, "list{pay 40 30;}list{}list{}list{}list{}list{most 2;}");
+        for (int f = 0; f < 6; f++) {
+            office.flight(0, 0, 0, 40000, f);
+            for (int k = 0; k < 40; k++) {
+                office.strike(f, 7, k % 24, 40000 - k, 0);
+            }
+            DUE.due("no clock yet", office.result(f, 0, 0), 0);
+            DUE.due("clock", office.clock(f, 7, 0, 40000, 40000), true);
+            DUE.due("all home", office.result(f, 0, 0), 24);
+            DUE.due("the first", office.row(0, 0), 15);
+            DUE.due("the first's strike", office.row(0, 2), 39);
+            DUE.due("the last", office.row(23, 0), 16);
+            DUE.due("the last's place", office.row(23, 1), 24);
+            DUE.due("no row behind it", office.row(24, 0), -1);
+            DUE.due("two of each loft", office.result(f, 5, 0), 16);
+        }
+        DUE.due("points over six flights", office.points(15, 400, 400), 60);
+        DUE.due("points over three flights", office.points(14, 2, 400), 27);
+        for (int bird = 0; bird < 24; bird++) {
+            office.stake(5, 0, bird, 10000);
+        }
+        DUE.due("the first's prize", office.prize(5, 0, 15, 0), 96000);
+        DUE.due("the pool", office.pool(5, 0, 0, 0), 240000);
+        DUE.due("all prizes", office.pool(5, 0, 0, 1), 168000);
+        DUE.due("count(4)", office.count(4), 240);
     }
 }

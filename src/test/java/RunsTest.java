@@ -47,7 +47,7 @@ public final class RunsTest {
         for (int i = 0; i < 5 + below(12); i++) {
             addBird();
         }
-        for (int i = 0; i < 2 + below(4); i++) {
+        for (int i = 0; i < 1 + below(run % 3 * 2 + 1); i++) {
             addFlight();
         }
         while (calls < 400) {
@@ -101,7 +101,8 @@ public final class RunsTest {
 
     /** Few places and few seconds, in half of the runs, so that velocities are often equal. */
     private int second(int bound) {
-        return run % 2 == 0 ? some(bound / 1000) * 1000 : some(bound);
+        int grain = run % 4 == 0 ? 5000 : run % 4 == 2 ? 1000 : 1;
+        return some(bound / grain) * grain;
     }
 
     private void addLoft() {
@@ -123,7 +124,7 @@ public final class RunsTest {
         int x = some(3) * grid;
         int y = some(3) * grid;
         int released = second(10000);
-        int closed = second(40000);
+        int closed = below(2) == 0 ? 40000 : second(40000);
         int d = day();
         check("flight", office.flight(x, y, released, closed, d), plain.flight(x, y, released, closed, d));
     }
@@ -144,9 +145,10 @@ public final class RunsTest {
     private void tellClock() {
         int f = flight();
         int l = loft();
-        int set = second(5000);
-        int read = second(40000);
-        int shown = below(3) == 0 ? read : second(40000);
+        boolean plainRun = run % 2 == 0 && below(8) != 0;
+        int set = plainRun ? 0 : second(5000);
+        int read = plainRun ? 40000 : second(40000);
+        int shown = plainRun || below(3) == 0 ? read : second(40000);
         check("clock", office.clock(f, l, set, read, shown), plain.clock(f, l, set, read, shown));
     }
 
@@ -227,9 +229,11 @@ public final class RunsTest {
     private void askPrize() {
         int f = flight();
         int l = list();
-        int b = bird();
         int d = day();
-        check("prize", office.prize(f, l, b, d), plain.prize(f, l, b, d));
+        for (int i = 0; i < 5; i++) {
+            int b = bird();
+            check("prize", office.prize(f, l, b, d), plain.prize(f, l, b, d));
+        }
     }
 
     private void askPool() {
@@ -259,7 +263,7 @@ public final class RunsTest {
 
     private void tellText() {
         StringBuilder text = new StringBuilder();
-        int many = 1 + below(below(4) == 0 ? 7 : 2);
+        int many = 1 + below(below(4) == 0 && run % 4 != 0 ? 7 : 2);
         for (int i = 0; i < many; i++) {
             text.append("list{");
             addItems(text);
@@ -305,9 +309,12 @@ public final class RunsTest {
         }
         if (below(4) != 0) {
             text.append("pay");
-            int each = 1 + below(60);
-            for (int i = 0; i < 1 + below(Math.max(1, 100 / each)); i++) {
-                text.append(' ').append(each);
+            int many = 1 + below(below(10) == 0 ? 9 : 8);
+            int left = below(15) == 0 ? 101 : 100;
+            for (int i = 0; i < many; i++) {
+                int next = below(left + 1);
+                text.append(' ').append(next);
+                left -= next;
             }
             text.append(" ;");
         }
