@@ -141,6 +141,7 @@ public final class EdgePrizeTest {
         EDGES.range("closed pool what", Edges.POOL, Edges.NONE, 3, 0, 3, 0, 1, 10, 0);
     }
 
+    /** "POOL: the stakes": without any, or of 0, or without a bird. */
     private static void aPoolOfNothing() {
         BirdOffice office = home("list{pay 100;}", 7);
         duePool(office, 0, 0, 0, 0, 0);
@@ -196,6 +197,7 @@ public final class EdgePrizeTest {
         duePool(office, 0, 0, 0, 0, 10000);
     }
 
+    /** "POOL: ... BIRDS that aren't withdrawn by then": a protest alone takes no stake out. */
     private static void aProtestLeavesTheStake() {
         BirdOffice office = home("list{pay 50 10;}", 7, 8);
         stakeAll(office, 100, 20);
@@ -287,7 +289,7 @@ public final class EdgePrizeTest {
         duePool(office, 0, 240000, 240000, 0, 0);
     }
 
-    /** The last flight, the last list, the last bird. */
+    /** "the stakes for that FLIGHT and LIST": of the last flight, the last list, the last bird. */
     private static void theLastOfAll() {
         BirdOffice office = new BirdOffice();
         office.loft(0, 1);

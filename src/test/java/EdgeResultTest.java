@@ -242,7 +242,7 @@ public final class EdgeResultTest {
         DUE.dueResult(office, 0, 0, 0, 1, 1, 4, 0, 2, 0, 2, 3, 2);
     }
 
-    /** Exact velocities, from the least to the greatest that there are: no long holds their products. */
+    /** "the greater VELOCITY first", from the least to the greatest: no long holds their products. */
     private static void velocitiesOfLargeNumbers() {
         int[][] lofts = {{2000, 2000}, {1999, 2000}, {0, 1}, {2000, 0}, {1, 1}, {1414, 1414}, {3, 4}, {6, 8}};
         int[][] clocks = {{0, 40000, 40000}, {0, 1, 40000}, {0, 40000, 39999}, {0, 39999, 40000},
@@ -518,6 +518,7 @@ public final class EdgeResultTest {
         EDGES.refused("row", Edges.ROW, Edges.NONE, Integer.MIN_VALUE, Integer.MIN_VALUE);
     }
 
+    /** "NONE if there is none such.": no other call makes rows, nor a result() that is NONE. */
     private static void rowsBeforeAnyResult() {
         BirdOffice office = smallOffice(0, 40000);
         office.strike(0, 0, 0, 7, 0);

@@ -406,7 +406,7 @@ public final class EdgeTextTest {
         }
     }
 
-    /** Numbers within 0 .. 99999 that come round if they are held in a byte or a short. */
+    /** "numbers (digits) 0 .. 99999": those taken are held in full, not in a byte or a short. */
     private static void numbersAsTheyAre() {
         BirdOffice office = new BirdOffice();
         office.loft(0, 1);
@@ -503,7 +503,8 @@ public final class EdgeTextTest {
 
     /** "(its first byte; the length, if more must come)": a text cut off at each of its bytes. */
     private static void moreMustCome() {
-        String text = "list { if not (loft < 12 or year > 34) and sex = 0 or ring = 5; most 67;\nuntil 89; pay 50 10 ; }";
+        String text = "list { if not (loft < 12 or year > 34) and sex = 0 or ring = 5; most 67;\n"
+                + "until 89; pay 50 10 ; }";
         dueLists(text, 1);
         for (int cut = 0; cut < text.length(); cut++) {
             int word = cut;
@@ -517,7 +518,7 @@ public final class EdgeTextTest {
         dueFault(text + text.substring(0, 5) + "   ", 1, text.length() + 8);
     }
 
-    /** As many tokens as the tape has bytes. */
+    /** "The TAPE's first n bytes": as many tokens as it can have bytes. */
     private static void asManyTokensAsBytes() {
         dueFault("{".repeat(800), 1, 0);
         dueFault("0{".repeat(400), 1, 0);
@@ -571,7 +572,7 @@ public final class EdgeTextTest {
         }
     }
 
-    /** Six rounds, in each of which an or and an and wait for what stands within. */
+    /** "a ( within 6 others" is too much, six are not: in each an or and an and wait for what is within. */
     private static void theDeepestCondition() {
         BirdOffice office = allHome();
         String open = "ring=0 or ring<20 and (";
@@ -588,7 +589,7 @@ public final class EdgeTextTest {
         dueBirds(office, less + "ring=1" + ")".repeat(6), 4, 1);
     }
 
-    /** Conditions as long as the tape: the first, the last and one in the midst decide. */
+    /** "C: T { or T }; T: F { and F }", as long as the tape: the first, the last, one in the midst decide. */
     private static void theLongestConditions() {
         BirdOffice office = allHome();
         dueBirds(office, "sex=9 or ".repeat(87) + "ring=5", 1, 5);
